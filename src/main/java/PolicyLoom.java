@@ -57,7 +57,8 @@ public final class PolicyLoom {
         woven = false;
     }
 
-    public int code(int operation, int k) {
+    public int code(int operation, int k)
+            throws IllegalArgumentException, IndexOutOfBoundsException {
         if (operation < PUSH || operation > END) {
             throw new IllegalArgumentException("no operation");
         }
@@ -74,7 +75,7 @@ public final class PolicyLoom {
         program.size = 0;
     }
 
-    public void states(int s) {
+    public void states(int s) throws IllegalArgumentException {
         if (s < 1 || s > MOST_STATES) {
             throw new IllegalArgumentException("no such number of states");
         }
@@ -82,7 +83,8 @@ public final class PolicyLoom {
         automaton.reset(s);
     }
 
-    public void rule(int state, int act, int lowest, int highest, int then) {
+    public void rule(int state, int act, int lowest, int highest, int then)
+            throws IllegalArgumentException {
         if (!automaton.hasState(state) || !automaton.hasState(then)) {
             throw new IllegalArgumentException("no state");
         }
@@ -100,7 +102,7 @@ public final class PolicyLoom {
         return isWellFormed();
     }
 
-    public int height(int i) {
+    public int height(int i) throws IllegalStateException, IndexOutOfBoundsException {
         requireWellFormed();
         if (i < 0 || i >= program.size) {
             throw new IndexOutOfBoundsException("no instruction");
@@ -108,12 +110,13 @@ public final class PolicyLoom {
         return heights.found[i];
     }
 
-    public int enforce() {
+    public int enforce() throws IllegalStateException {
         requireWellFormed();
         return wovenListing().size;
     }
 
-    public int enforced(int i, boolean second) {
+    public int enforced(int i, boolean second)
+            throws IllegalStateException, IndexOutOfBoundsException {
         requireWellFormed();
         Listing listing = wovenListing();
         if (i < 0 || i >= listing.size) {
@@ -122,7 +125,7 @@ public final class PolicyLoom {
         return second ? listing.numbers[i] : listing.operations[i];
     }
 
-    public void start(int how, int x) {
+    public void start(int how, int x) throws IllegalStateException, IllegalArgumentException {
         requireWellFormed();
         if (how < 0 || how > WATCHED) {
             throw new IllegalArgumentException("no such run");
@@ -130,7 +133,7 @@ public final class PolicyLoom {
         run.begin(how, x);
     }
 
-    public int step(int n) {
+    public int step(int n) throws IllegalStateException, IllegalArgumentException {
         if (run.status == NO_RUN) {
             throw new IllegalStateException("no run");
         }
@@ -147,7 +150,7 @@ public final class PolicyLoom {
         return n;
     }
 
-    public int look(int what) {
+    public int look(int what) throws IllegalArgumentException {
         if (what < 0 || what > 4) {
             throw new IllegalArgumentException("nothing to look at");
         }
@@ -168,14 +171,14 @@ public final class PolicyLoom {
         }
     }
 
-    public int act(int i, boolean number) {
+    public int act(int i, boolean number) throws IndexOutOfBoundsException {
         if (run.status == NO_RUN || i < 0 || i >= run.done) {
             throw new IndexOutOfBoundsException("no such act was done");
         }
         return number ? run.traceNumbers[i] : run.traceActs[i];
     }
 
-    public int cell(int k) {
+    public int cell(int k) throws IndexOutOfBoundsException {
         if (k < 0 || k >= CELLS) {
             throw new IndexOutOfBoundsException("no cell");
         }
