@@ -16,6 +16,7 @@ public final class ProgramTest {
         heightsOfInstructions();
         heightRefuses();
         wellFollowsTheProgram();
+        nothingStaysOfAnotherProgram();
         Checks.finish();
     }
 
@@ -233,6 +234,26 @@ public final class ProgramTest {
         loom.start(Checks.PLAIN, 0);
         Checks.yes("well beside a run", loom.well());
         Checks.same("well keeps the run", loom.look(Checks.STATUS), Checks.GOES_ON);
+    }
+
+    private static void nothingStaysOfAnotherProgram() {
+        PolicyLoom loom = new PolicyLoom();
+        for (int times = 0; times < 3; times++) {
+            loom.clear();
+            for (int i = 0; i < 12; i++) {
+                loom.code(Checks.PUSH, i);
+                Checks.no("without END", loom.well());
+            }
+            loom.code(Checks.END, 0);
+            Checks.yes("long", loom.well());
+            Checks.same("long: height", loom.height(12), 12);
+            loom.clear();
+            Checks.write(loom, Checks.END, 0, Checks.DROP, 0, Checks.SWAP, 0);
+            Checks.yes("short, the rest not reached", loom.well());
+            Checks.same("short: height 0", loom.height(0), 0);
+            Checks.same("short: height 1", loom.height(1), -1);
+            Checks.same("short: height 2", loom.height(2), -1);
+        }
     }
 
     private static int[] pushed(int times, int... rest) {
