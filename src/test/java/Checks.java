@@ -1,3 +1,5 @@
+import java.util.Arrays;
+import java.util.function.IntToLongFunction;
 import java.util.function.LongSupplier;
 
 /** What the tests share: counting checks, telling the wrong ones, and writing programs short. */
@@ -32,6 +34,10 @@ final class Checks {
     static final int STATE = 3;
     static final int DONE = 4;
 
+    private static final String[] NAMES = {
+        "PUSH", "DROP", "ADD", "SUBTRACT", "LESS", "LOAD", "STORE", "GO", "IF", "ACT", "SWAP", "DUPLICATE", "END"
+    };
+
     private static int right = 0;
     private static int wrong = 0;
 
@@ -60,6 +66,18 @@ final class Checks {
 
     static void badIndex(String what, LongSupplier call) {
         fails(what, IndexOutOfBoundsException.class, call);
+    }
+
+    static void badArguments(String what, IntToLongFunction call, int... wrong) {
+        for (int number : wrong) {
+            badArgument(what + " " + number, () -> call.applyAsLong(number));
+        }
+    }
+
+    static void badIndexes(String what, IntToLongFunction call, int... wrong) {
+        for (int number : wrong) {
+            badIndex(what + " " + number, () -> call.applyAsLong(number));
+        }
     }
 
     /** The class must be just that one: a subclass would be an exception that the code never wrote. */
@@ -110,6 +128,29 @@ final class Checks {
         }
     }
 
+    /** A new object with a program that is written as text: "PUSH 1; ACT 3; END". */
+    static PolicyLoom loom(String text) {
+        return loom(code(text));
+    }
+
+    /** The same instructions as numbers: operation, k, operation, k, ..; a k that is not written is 0. */
+    static int[] code(String text) {
+        String[] lines = text.split("; *");
+        int[] code = new int[2 * lines.length];
+        for (int i = 0; i < lines.length; i++) {
+            String[] words = lines[i].split(" ");
+            code[2 * i] = Arrays.asList(NAMES).indexOf(words[0]);
+            code[2 * i + 1] = words.length > 1 ? Integer.parseInt(words[1]) : 0;
+        }
+        return code;
+    }
+
+    /** A new run with this number in cell 0, as far as 2000 steps go. */
+    static void run(PolicyLoom loom, int how, int x) {
+        loom.start(how, x);
+        loom.step(2000);
+    }
+
     static void looks(String what, PolicyLoom loom, int status, int place, int stacked, int state, int done) {
         same(what + ": status", loom.look(STATUS), status);
         same(what + ": place", loom.look(PLACE), place);
@@ -128,8 +169,9 @@ final class Checks {
     }
 
     static void listing(String what, PolicyLoom loom, int... due) {
-        same(what + ": enforce", loom.enforce(), due.length / 2);
-        for (int i = 0; i < due.length / 2 && i < loom.enforce(); i++) {
+        int size = loom.enforce();
+        same(what + ": enforce", size, due.length / 2);
+        for (int i = 0; i < due.length / 2 && i < size; i++) {
             same(what + ": operation " + i, loom.enforced(i, false), due[2 * i]);
             same(what + ": k " + i, loom.enforced(i, true), due[2 * i + 1]);
         }

@@ -1,28 +1,12 @@
-/** Promises 8 and 9: enforce and enforced. */
+/** Promises 8 and 9 in ordinary use: enforce and enforced. */
 public final class EnforceTest {
 
     public static void main(String[] args) {
-        withoutActs();
-        stopAloneWithoutRules();
         testsOfTwoStates();
         wholeListingWithJumps();
-        theLargest();
         enforcedFollowsChanges();
         enforcedKeepsRun();
-        refuses();
         Checks.finish();
-    }
-
-    private static void withoutActs() {
-        PolicyLoom loom = Checks.loom(Checks.PUSH, -3, Checks.DROP, 17, Checks.GO, 3, Checks.END, 5);
-        loom.rule(0, 0, 0, 0, 0);
-        Checks.listing("no acts", loom, Checks.PUSH, -3, Checks.DROP, 17, Checks.GO, 3, Checks.END, 5);
-    }
-
-    private static void stopAloneWithoutRules() {
-        PolicyLoom loom = Checks.loom(Checks.PUSH, 1, Checks.ACT, 4, Checks.GO, 0);
-        loom.rule(0, 3, 0, 0, 0);
-        Checks.listing("no rule", loom, Checks.PUSH, 1, Checks.END, 0, Checks.ACT, 4, Checks.GO, 0);
     }
 
     private static void testsOfTwoStates() {
@@ -94,33 +78,6 @@ public final class EnforceTest {
                 Checks.GO, 27);
     }
 
-    private static void theLargest() {
-        PolicyLoom loom = Checks.loom(Checks.GO, 0);
-        for (int i = 1; i < 24; i++) {
-            loom.code(Checks.ACT, 7);
-        }
-        loom.states(4);
-        for (int state = 0; state < 4; state++) {
-            loom.rule(state, 7, state, 100 + state, 3 - state);
-        }
-        Checks.same("the largest", loom.enforce(), 1 + 23 * 66);
-        for (int i = 1; i < 24; i++) {
-            int act = 66 * i;
-            Checks.same("act " + i, loom.enforced(act, false), Checks.ACT);
-            Checks.same("stop " + i, loom.enforced(act - 1, false), Checks.END);
-            for (int state = 0; state < 4; state++) {
-                int test = act - 65 + 16 * state;
-                Checks.same("state of a test", loom.enforced(test + 1, true), state);
-                Checks.same("next of a test", loom.enforced(test + 3, true), test + 16);
-                Checks.same("lowest of a test", loom.enforced(test + 5, true), state);
-                Checks.same("highest of a test", loom.enforced(test + 9, true), 100 + state);
-                Checks.same("then of a test", loom.enforced(test + 13, true), 3 - state);
-                Checks.same("a test goes to", loom.enforced(test + 15, true), act);
-            }
-        }
-        Checks.badIndex("behind the largest", () -> loom.enforced(1519, false));
-    }
-
     private static void enforcedFollowsChanges() {
         PolicyLoom loom = Checks.loom(Checks.PUSH, 1, Checks.ACT, 4, Checks.END, 0);
         Checks.same("no rule", loom.enforce(), 4);
@@ -145,21 +102,5 @@ public final class EnforceTest {
         Checks.looks("beside a run", loom, Checks.GOES_ON, 2, 0, 0, 1);
         Checks.same("the run goes on as it was", loom.step(5), 1);
         Checks.same("to its end", loom.look(Checks.STATUS), Checks.OVER);
-    }
-
-    private static void refuses() {
-        PolicyLoom loom = Checks.loom(Checks.PUSH, 1, Checks.ACT, 4, Checks.END, 0);
-        int[] wrong = {-1, 4, 1584, Integer.MIN_VALUE, Integer.MAX_VALUE};
-        for (int i : wrong) {
-            Checks.badIndex("operation " + i, () -> loom.enforced(i, false));
-            Checks.badIndex("k " + i, () -> loom.enforced(i, true));
-        }
-        PolicyLoom ill = new PolicyLoom();
-        Checks.badState("enforce without a program", () -> ill.enforce());
-        Checks.badState("enforced without a program", () -> ill.enforced(0, false));
-        Checks.badState("enforced, state ahead of index", () -> ill.enforced(-1, true));
-        ill.code(Checks.PUSH, 0);
-        Checks.badState("enforce, ill", () -> ill.enforce());
-        Checks.badState("enforced, ill", () -> ill.enforced(0, true));
     }
 }
