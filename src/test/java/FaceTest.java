@@ -6,7 +6,7 @@ import java.util.Arrays;
 import java.util.Set;
 import java.util.TreeSet;
 
-/** The public face, just as the document writes it, and the example of README.md. */
+/** The public face, just as the document writes it. */
 public final class FaceTest {
     private static final String BAD_ARGUMENT = "IllegalArgumentException";
     private static final String BAD_STATE = "IllegalStateException";
@@ -31,7 +31,6 @@ public final class FaceTest {
         classItself();
         methods();
         nothingElseShows();
-        readme();
         Checks.finish();
     }
 
@@ -83,26 +82,5 @@ public final class FaceTest {
             Checks.no(inside + " is shown", Modifier.isPublic(modifiers) || Modifier.isProtected(modifiers));
             Checks.yes(inside + " has few fields", inside.getDeclaredFields().length <= 20);
         }
-    }
-
-    private static void readme() {
-        PolicyLoom loom = new PolicyLoom();
-        loom.code(5, 0);
-        loom.code(9, 1);
-        loom.code(12, 0);
-        loom.states(2);
-        loom.rule(0, 1, 1, 10, 1);
-        Checks.yes("well", loom.well());
-        Checks.same("height", loom.height(1), 1);
-        Checks.same("enforce", loom.enforce(), 20);
-        Checks.same("enforced", loom.enforced(1, false), 5);
-        Checks.same("enforced", loom.enforced(1, true), 7);
-        loom.start(2, 11);
-        Checks.same("step", loom.step(2000), 2);
-        Checks.same("look", loom.look(0), 4);
-        loom.start(1, 11);
-        Checks.same("step", loom.step(2000), 15);
-        Checks.same("look", loom.look(0), 2);
-        Checks.same("look", loom.look(4), 0);
     }
 }
